@@ -141,6 +141,8 @@ public final class PromisesTest {
     private static void promise3() {
         fine("", 0);
         fine("     ", 0);
+        fine(" ".repeat(240), 0);
+        fine(" ".repeat(237) + "g1;", 0);
         fine("g1;", 0);
         fine("  g  30 ;  ", 0);
         fine("g001;s 0 , 63,63 ,00,063 ; c1;w 5;c63;w0;", 1);
@@ -259,6 +261,10 @@ public final class PromisesTest {
         g.wind(0);
         // four gnats: without an eye the square's second to fifth dot, and the arrow's first four by lamp 2
         due("cloud", g.told(11), dots(".XX...", "XX.X..", "X...X.", "...X.."));
+        GnatPortraits nose = city("g30;s3,0,0,0,0;s6,0,0,0,0;w0;w0;");
+        nose.stand(0, 0);
+        nose.stand(1, 1);
+        due("a nose in common", nose.told(11), dots("XXX..."));
         due("told(-1)", g.told(-1), OUTSIDE);
         due("told(16)", g.told(16), OUTSIDE);
         due("told(most)", g.told(MOST), OUTSIDE);
@@ -590,6 +596,12 @@ public final class PromisesTest {
         empty.seed(seedFor(4));
         empty.drift(1);
         due("no sitters, no draw", empty.seed(0), next(seedFor(4)));
+        GnatPortraits blind = city("g30;s63,63,63,63,63;w0;");
+        blind.eye(drawOf(next(next(seedFor(2))), 30));
+        int eyes = blind.told(8);
+        blind.seed(seedFor(2));
+        blind.drift(1);
+        due("an eye that was taken already", blind.told(8), eyes);
         GnatPortraits g = city(CITY);
         due("0", g.drift(0), OUTSIDE);
         due("61", g.drift(61), OUTSIDE);
@@ -679,6 +691,7 @@ public final class PromisesTest {
         due("stand from 0", g.undo(), 1);
         due("at 0", g.sitter(0, 1), 0);
         due("first", g.undo(), 0);
+        due("as at first", g.sitter(0, 1), NONE);
         due("no more", g.undo(), NOT);
         for (int i = 0; i < 17; i++) {
             g.lamp(0, i % 6);
@@ -738,6 +751,11 @@ public final class PromisesTest {
         g.bats(3);
         due("bats", g.bestLamp(0, 0, 0), 0);
         due("bats: nothing is left", g.bestLamp(0, 0, 1), 24);
+        GnatPortraits away = city("g9;s1,0,0,0,0;w0;");
+        away.wind(1);
+        // by lamps 0 to 4 he comes beside himself, by 5 not at all
+        due("best away", away.bestLamp(0, 0, 0), 5);
+        due("best away, how much", away.bestLamp(0, 0, 1), 29);
         due("few gnats", city("g2;s63,0,0,0,0;w3;").bestLamp(0, 0, 1), 26);
         due("few gnats, lamp", city("g2;s63,0,0,0,0;w3;").bestLamp(0, 0, 0), 0);
         due("no window", g.bestLamp(3, 0, 5), UNKNOWN);
@@ -856,6 +874,10 @@ public final class PromisesTest {
         due("last corner", g.turned(dots("", "", "", ".....X", "....X."), 0), 1 << 29);
         due("edge", g.turned(dots("......", "X.....", ".X....", "X....."), 0), dots("", "", "X....."));
         due("rows do not go on", g.turned(dots("....X.", ".....X", ".X...."), 0), dots(".....X"));
+        due("below is asked for", g.turned(dots(".X....", "......"), 0), 0);
+        due("above is asked for", g.turned(dots("......", ".X....", "X....."), 0), 0);
+        due("above it is", g.turned(dots("X.....", ".X....", "X....."), 0), dots("", "X....."));
+        due("last row", g.turned(dots("", "", "", "X.....", ".X...."), 0), 1 << 24);
         due("two", g.turned(dots(".X.X..", "X.X...", ".X...."), 0), dots("X.X...", ".X...."));
         due("nothing", g.turned(0, 0), 0);
         due("all", g.turned(ALL, 0), 0);
@@ -872,6 +894,7 @@ public final class PromisesTest {
         GnatPortraits g = city("g1;s7,0,0,0,0;s56,0,0,0,0;s63,0,0,0,0;c7;c56;c8;");
         // by the left half 0 and 2 are all like XXX, 0 is less; by the right 0 is nothing, too
         due("left: 0", g.votes(dots("XXX..."), 0), 3);
+        due("left: elected", g.votes(dots("XXX..."), NONE), 0);
         due("all: left 0, right 1, 1", g.votes(dots("XXXXXX"), 1), 2);
         due("all: left 0", g.votes(dots("XXXXXX"), 0), 1);
         due("all: 2 never", g.votes(dots("XXXXXX"), 2), 0);
@@ -927,6 +950,15 @@ public final class PromisesTest {
         due("30", g.tellOf(30, true), OUTSIDE);
         due("-1", g.tellOf(-1, true), OUTSIDE);
         due("told", g.told(13), 6);
+        GnatPortraits twice = city("g30;s1,0,0,0,0;s2,0,0,0,0;");
+        twice.tellOf(0, false);
+        twice.tellOf(0, false);
+        twice.tellOf(2, false);
+        twice.tellOf(3, false);
+        twice.tellOf(4, false);
+        twice.tellOf(5, false);
+        due("not drawn, told twice", twice.told(14), 3);
+        due("not drawn, told twice: none to ask", twice.ask(), 1);
         GnatPortraits far = city("g30;s1,0,0,0,0;");
         far.tellOf(5, true);
         due("by lamp 5", far.told(14), 1);
