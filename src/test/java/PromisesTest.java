@@ -728,6 +728,7 @@ public final class PromisesTest {
         due("of like ones", city("g1;s0,0,1,0,0;s1,0,0,0,0;s2,0,0,0,0;").seenAs(3), 1);
         due("of like ones all", city("g1;s1,0,0,0,0;s1,0,0,0,0;").seenAs(3), 0);
         due("none", city("g1;").seenAs(3), NONE);
+        due("not like at all", city("g1;s0,0,0,0,0;").seenAs(ALL), 0);
         due("no capital, outside", new GnatPortraits().seenAs(-1), OUTSIDE);
     }
 
@@ -950,15 +951,11 @@ public final class PromisesTest {
         due("30", g.tellOf(30, true), OUTSIDE);
         due("-1", g.tellOf(-1, true), OUTSIDE);
         due("told", g.told(13), 6);
-        GnatPortraits twice = city("g30;s1,0,0,0,0;s2,0,0,0,0;");
+        GnatPortraits twice = city("g30;s1,0,0,0,0;");
         twice.tellOf(0, false);
         twice.tellOf(0, false);
-        twice.tellOf(2, false);
-        twice.tellOf(3, false);
-        twice.tellOf(4, false);
-        twice.tellOf(5, false);
-        due("not drawn, told twice", twice.told(14), 3);
-        due("not drawn, told twice: none to ask", twice.ask(), 1);
+        twice.tellOf(0, true);
+        due("not drawn, told twice", twice.told(14), 0);
         GnatPortraits far = city("g30;s1,0,0,0,0;");
         far.tellOf(5, true);
         due("by lamp 5", far.told(14), 1);
