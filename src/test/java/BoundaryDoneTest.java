@@ -615,7 +615,29 @@ public final class BoundaryDoneTest {
         due("each can be undone", g.told(15), 3);
     }
 
+    static void promise16RainIsShownAs1() {
+        GnatPortraits g = Scenes.told("g1;");
+        due("not at first", g.told(9), 0);
+        g.rain(true);
+        due("it rains", g.told(9), 1);
+        g.rain(true);
+        due("it rains still", g.told(9), 1);
+        g.rain(false);
+        due("it does not", g.told(9), 0);
+    }
+
     // ---- promise 17
+
+    static void promise17SmokeEndsOverTheOneWindowAlone() {
+        for (int w = 0; w < 5; w++) {
+            GnatPortraits g = crowd();
+            for (int each = 0; each < 5; each++) {
+                g.smoke(each, true);
+            }
+            due("there was over " + w, g.smoke(w, false), 1);
+            due("over all but " + w, g.told(10), 31 ^ (1 << w));
+        }
+    }
 
     static void promise17WindowsThatThereAre() {
         GnatPortraits g = crowd();

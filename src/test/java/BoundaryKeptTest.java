@@ -158,6 +158,18 @@ public final class BoundaryKeptTest {
         }
     }
 
+    static void promise20AnEyeComesToThoseThatAreTaken() {
+        GnatPortraits g = Scenes.told("g1;");
+        g.eye(0);
+        g.eye(7);
+        g.seed(seedFor(2, 30, 29));
+        g.drift(1);
+        due("three", g.told(8), 1 + (1 << 7) + (1 << 29));
+        g.seed(seedFor(2, 30, 7));
+        g.drift(1);
+        due("one that is taken", g.told(8), 1 + (1 << 7) + (1 << 29));
+    }
+
     static void promise20RainAndNothing() {
         int rain = seedFor(3, 1, 0);
         GnatPortraits wet = drifted(rain);
@@ -195,6 +207,15 @@ public final class BoundaryKeptTest {
                 due("he is there", g.sitter(sitter, 1), window);
             }
         }
+    }
+
+    static void promise20TheOnlySitterStandsAtTheOnlyWindow() {
+        int seed = seedFor(4, 1, 0);
+        GnatPortraits g = Scenes.told(Scenes.SMALL);
+        g.seed(seed);
+        due("he is drawn", g.drift(1), 1);
+        due("he stands there", g.window(0, 1), 0);
+        due("three draws, of one too", g.seed(0), next(next(next(seed))));
     }
 
     static void promise20NobodyStandsWithoutSittersOrWindows() {

@@ -359,6 +359,13 @@ public final class BoundaryTriedTest {
         placed("g30;s63,0,0,0,0;s1,0,0,0,0;s2,0,0,0,0;w0;w0;w0;", 1, 2, NONE);
     }
 
+    static void promise27NobodyWhereSomebodyWouldSpoilTheMost() {
+        // at window 0 only the wide one is drawn, over all that the other could take
+        GnatPortraits g = Scenes.told("g30;s63,0,0,0,0;s1,0,0,0,0;w0;w5;w1;");
+        g.bats(1);
+        placed(g, "the first is left empty", NONE, 0, 1);
+    }
+
     static void promise27TheMostComeAheadOfTheFirst() {
         // 0 at window 0 would leave one alone; 1 and 2 fit side by side
         placed("g30;s3,0,0,0,0;s1,0,0,0,0;s2,0,0,0,0;w0;w0;", 1, 2);
@@ -541,6 +548,18 @@ public final class BoundaryTriedTest {
         due("no critics", Scenes.told("g1;s1,0,0,0,0;").votes(1, NONE), NONE);
         due("no critics: none says so", Scenes.told("g1;s1,0,0,0,0;").votes(1, 0), 0);
         due("no sitters", Scenes.told("g1;c63;").votes(1, NONE), NONE);
+    }
+
+    static void promise30SixSittersSixCritics() {
+        // critics of columns 0, 1, 2, 3, 5 and of all; sitter 0 has all dots, 1 none, 5 the last
+        GnatPortraits g = Scenes.told(Scenes.CROWD);
+        due("all dots: all say 0", g.votes(ALL, 0), 6);
+        due("all dots: elected", g.votes(ALL, NONE), 0);
+        due("nothing: all say 1", g.votes(0, 1), 6);
+        due("nothing: elected", g.votes(0, NONE), 1);
+        GnatPortraits last = Scenes.told("g1;s1,0,0,0,0;s1,0,0,0,0;s1,0,0,0,0;s1,0,0,0,0;s1,0,0,0,0;s0,0,0,0,0;c1;c1;");
+        due("the last: both", last.votes(0, 5), 2);
+        due("the last is elected", last.votes(0, NONE), 5);
     }
 
     static void promise30EachLooksAtHisColumnsAlone() {
@@ -757,6 +776,21 @@ public final class BoundaryTriedTest {
         due("again", six.tear(), 0);
         due("the first again", six.tellOf(0, true), 1);
         due("no capital", Scenes.bare().tear(), 1);
+    }
+
+    static void promise34WhatWasDrawnAndWhatWasNotAreTorn() {
+        GnatPortraits g = Scenes.told("g1;s1,0,0,0,0;s2,0,0,0,0;");
+        g.tellOf(0, true);
+        due("one may be", g.told(14), 1);
+        g.tear();
+        due("torn: both", g.told(14), 3);
+        for (int dot = 0; dot < 6; dot++) {
+            g.tellOf(dot, false);
+        }
+        due("the other may be", g.told(14), 2);
+        g.tear();
+        due("torn: both again", g.told(14), 3);
+        due("as at first", g.ask(), Scenes.told("g1;s1,0,0,0,0;s2,0,0,0,0;").ask());
     }
 
     static void promise34AllElseStays() {

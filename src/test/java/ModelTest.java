@@ -2,8 +2,10 @@ import java.util.Random;
 
 /** Long runs of calls by draws (always the same ones): the program answers as the model does. */
 public final class ModelTest {
-    private static final int RUNS = 400;
+    private static final int RUNS = 1000;
+    /** The document leaves free what an object answers behind its 512th call. */
     private static final int CALLS = 512;
+    private static final int LOOKS = 22;
     private static final int ALL = (1 << 30) - 1;
 
     private final Random draws;
@@ -11,6 +13,7 @@ public final class ModelTest {
     private final Model model = new Model();
     private final Checks checks;
     private final int run;
+    private int calls = 0;
 
     private ModelTest(int run, Checks checks) {
         this.run = run;
@@ -27,31 +30,29 @@ public final class ModelTest {
     }
 
     private void play() {
-        int calls = 0;
         if (run % 10 != 0) {
-            calls = tell(draws.nextInt(3) == 0 ? brokenText() : text());
+            tell(draws.nextInt(3) == 0 ? brokenText() : text());
         }
         while (calls < CALLS) {
             if (CALLS - calls > 250 && draws.nextInt(60) == 0) {
-                calls += tell(draws.nextBoolean() ? brokenText() : text());
+                tell(draws.nextBoolean() ? brokenText() : text());
             } else {
                 call(draws.nextInt(32));
-                calls++;
             }
         }
     }
 
     private void same(String call, int got, int want) {
+        calls++;
         checks.due("run " + run + ": " + call, got, want);
     }
 
-    private int tell(String text) {
+    private void tell(String text) {
         for (int i = 0; i < text.length(); i++) {
             same("feed", program.feed(text.charAt(i)), model.feed(text.charAt(i)));
         }
         same("capital of '" + text + "'", program.capital(), model.capital());
         same("fault of '" + text + "'", program.fault(), model.fault());
-        return text.length() + 2;
     }
 
     private String text() {
@@ -170,7 +171,7 @@ public final class ModelTest {
         } else {
             tried(which, s, q, w, what);
         }
-        if (draws.nextInt(4) == 0) {
+        if (draws.nextInt(8) == 0 && calls + LOOKS <= CALLS) {
             looked(s, w, what);
         }
     }
