@@ -214,6 +214,19 @@ public final class BoundaryTriedTest {
         due("an empty one by all twelve", Scenes.told("g1;s0,0,0,0,0;").who(0, 0), 12);
     }
 
+    static void promise25DotsAreLostAtTheEndOfEachRow() {
+        for (int row = 0; row < 5; row++) {
+            String ahead = "g1;s" + "0,".repeat(row);
+            String behind = ",0".repeat(4 - row) + ";";
+            GnatPortraits last = Scenes.told(ahead + "32" + behind);
+            due("the last column by 1 to 8, row " + row, last.who(0, 0), 8);
+            due("no dot of the next row", last.who(at(row + 1, 0), 0), row == 4 ? 8 : 0);
+            GnatPortraits first = Scenes.told(ahead + "1" + behind);
+            due("the first column by 6 to 8, -3 to -1, row " + row, first.who(0, 0), 6);
+            due("no dot of the row ahead", first.who(at(row - 1, 5) | at(row - 1, 4), 0), row == 0 ? 6 : 0);
+        }
+    }
+
     static void promise25TheFirstIsOfTheLeastSitter() {
         GnatPortraits g = Scenes.told("g1;s63,63,63,63,63;s63,63,63,63,63;s2,0,0,0,0;s2,0,0,0,0;s4,0,0,0,0;s1,0,0,0,0;");
         due("four", g.who(Scenes.dots(".X...."), 0), 4);
@@ -281,6 +294,15 @@ public final class BoundaryTriedTest {
         due("lost by 5 both", back.parted(0, 0), 1);
         due("lost by 5 both, first", back.parted(0, 1), 155);
         due("both empty: six by six", Scenes.told("g1;s0,0,0,0,0;s0,0,0,0,0;").parted(0, 0), 36);
+    }
+
+    static void promise26DotsAreLostAtTheEndOfEachRow() {
+        for (int row = 0; row < 5; row++) {
+            String rows = "s" + "0,".repeat(row) + "33" + ",0".repeat(4 - row) + ";";
+            GnatPortraits g = Scenes.told("g1;" + rows + rows);
+            due("the last column of both is lost, row " + row, g.parted(at(row, 2), 0), 1);
+            due("by 2 and 2, row " + row, g.parted(at(row, 2), 1), 122);
+        }
     }
 
     static void promise26ThePairsOfSixSitters() {
