@@ -35,6 +35,7 @@ public final class GnatPortraits {
     private static final int GREATEST_SHIFT = 8;
     private static final int BILLION = 1000000000;
     private static final int HUNDRED = 100;
+    private static final int GREATEST_SEED = 2147483647;
 
     private final Reader reader;
     private final Capital city;
@@ -705,7 +706,7 @@ public final class GnatPortraits {
 
     private int nextDraw(int n) {
         // int arithmetic wraps by 2 to the 32, so what is left over by 2 to the 31 is its lower bits
-        seedNow = (seedNow * 1103515245 + 12345) & Integer.MAX_VALUE;
+        seedNow = (seedNow * 1103515245 + 12345) & GREATEST_SEED;
         return n < 1 ? 0 : (seedNow / 65536) % n;
     }
 

@@ -5,8 +5,12 @@ import java.lang.reflect.Modifier;
 import java.util.Arrays;
 import java.util.TreeSet;
 
-/** The public face is the document's and no more, and no private method bears a public one's name. */
+/**
+ * The public face is the document's and no more, no private method bears a public one's name, and the fields
+ * are of the kinds that LANGUAGE.md leaves.
+ */
 public final class FaceTest {
+    private static final int MOST_FIELDS = 20;
     private static final String[] FACE = {
         "feed(int)", "capital()", "fault()", "told(int)", "sitter(int,int)", "window(int,int)", "album(int,int)",
         "glass(int)", "stand(int,int)", "go(int)", "lamp(int,int)", "wind(int)", "bats(int)", "eye(int)",
@@ -34,8 +38,10 @@ public final class FaceTest {
         for (Class<?> inside : face.getDeclaredClasses()) {
             checks.holds(inside + " is static", Modifier.isStatic(inside.getModifiers()));
             noneIsCalledAlike(checks, inside, names);
+            fieldsAreOfTheKinds(checks, inside);
         }
         noneIsCalledAlike(checks, face, names);
+        fieldsAreOfTheKinds(checks, face);
         TreeSet<String> constants = new TreeSet<>();
         for (Field field : face.getDeclaredFields()) {
             if (!Modifier.isPrivate(field.getModifiers())) {
@@ -61,6 +67,23 @@ public final class FaceTest {
                 checks.holds(method + " has a name of its own", !names.contains(method.getName()));
             }
         }
+    }
+
+    /** Static ones are constants of whole numbers; the others numbers, own classes, arrays of one dimension of these. */
+    private static void fieldsAreOfTheKinds(Checks checks, Class<?> owner) {
+        int changing = 0;
+        for (Field field : owner.getDeclaredFields()) {
+            if (Modifier.isStatic(field.getModifiers())) {
+                checks.holds(field + " is a constant",
+                    Modifier.isFinal(field.getModifiers()) && field.getType() == int.class);
+            } else {
+                changing++;
+                Class<?> type = field.getType().isArray() ? field.getType().getComponentType() : field.getType();
+                checks.holds(field + " is of a kind that is left",
+                    type.isPrimitive() || type.getDeclaringClass() == GnatPortraits.class);
+            }
+        }
+        checks.holds(owner + " has few fields", changing <= MOST_FIELDS);
     }
 
     private static String signature(Method method) {

@@ -2,6 +2,8 @@ import java.io.IOException;
 import java.nio.charset.StandardCharsets;
 import java.nio.file.Files;
 import java.nio.file.Path;
+import java.util.HashSet;
+import java.util.Set;
 import java.util.regex.Matcher;
 import java.util.regex.Pattern;
 
@@ -12,7 +14,11 @@ public final class SourceTest {
         "float", "Exception", "Error", "Object", "Exact", "hashCode", "Random", "System\\.(?!arraycopy)", "Thread",
         "->", "::", "instanceof", "\\bstatic\\s*\\{"
     };
+    /** Of what rule 4 lists, the part that the source has a use for: another name must be looked up there first. */
+    private static final Set<String> LIBRARY = Set.of("Integer.bitCount", "Math.max", "Math.min", "Math.floorMod",
+        "System.arraycopy");
     private static final int LONGEST_METHOD = 60;
+    private static final int MOST_PARAMETERS = 7;
     private static final int MOST_CLASSES = 12;
 
     public static void main(String[] args) throws IOException {
@@ -24,10 +30,31 @@ public final class SourceTest {
             String pattern = Character.isLetter(word.charAt(0)) ? "\\b" + word + (word.endsWith(")") ? "" : "\\b") : word;
             checks.holds("without " + word, !Pattern.compile(pattern).matcher(code).find());
         }
-        Matcher classes = Pattern.compile("\\b(class|enum|record|interface) [A-Z]").matcher(code);
-        checks.holds("few classes", classes.results().count() <= MOST_CLASSES);
+        Set<String> own = new HashSet<>();
+        Matcher classes = Pattern.compile("\\b(?:class|enum|record|interface) ([A-Z]\\w*)").matcher(code);
+        while (classes.find()) {
+            own.add(classes.group(1));
+        }
+        checks.holds("few classes", !own.isEmpty() && own.size() <= MOST_CLASSES);
+        libraryAsListed(checks, code, own);
+        fewParameters(checks, code);
         shortMethods(checks, source.split("\n"));
         checks.end();
+    }
+
+    /** A class's name has small letters too, a constant's has none. */
+    private static void libraryAsListed(Checks checks, String code, Set<String> own) {
+        Matcher used = Pattern.compile("\\b([A-Z]\\w*[a-z]\\w*)\\.(\\w+)").matcher(code);
+        while (used.find()) {
+            checks.holds(used.group() + " is listed", own.contains(used.group(1)) || LIBRARY.contains(used.group()));
+        }
+    }
+
+    private static void fewParameters(Checks checks, String code) {
+        Matcher heads = Pattern.compile("\\b(?:public|private) [^=;{(]*\\(([^)]*)\\) \\{").matcher(code);
+        while (heads.find()) {
+            checks.holds(heads.group() + " has few parameters", heads.group(1).split(",").length <= MOST_PARAMETERS);
+        }
     }
 
     /** A method begins with a line that ends in ") {" and ends with a brace in the same column. */
